@@ -251,13 +251,10 @@ public final class PageReceiver {
         private final int[] overlays = new int[ROWS * COLUMNS];
         private final int[] links = new int[LINKS];
 
-        /** Makes this a new page. */
+        /** Makes this a new page; its header tells its subcode and its set. */
         void begin(int newNumber) {
             there = true;
             number = newNumber;
-            subcode = 0;
-            set = 0;
-            completedBefore = 0;
             Arrays.fill(letters, SPACE);
             Arrays.fill(overlays, 0);
             Arrays.fill(links, NONE);

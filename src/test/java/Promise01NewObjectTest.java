@@ -47,6 +47,8 @@ public final class Promise01NewObjectTest {
         Check.due("bytes", x.reset(), 0);
         for (int column = 0; column < 20; column++) {
             Check.due("head " + column, x.look(0, column, 0), column < 4 ? "P100".charAt(column) : 32);
+            Check.due("head's colour " + column, x.look(0, column, 1), 7);
+            Check.due("head's sum " + column, x.look(0, column, 3), 0);
             Check.due("row 7, " + column, x.look(7, column, 0), 32);
             Check.due("colour " + column, x.look(7, column, 1), 7);
             Check.due("ground " + column, x.look(7, column, 2), 0);

@@ -40,6 +40,10 @@ public final class Promise02OverlaysAndLinksTest {
         Check.due("then row 3", y.look(3, 9, 0), 130);
         Check.due("then row 1", y.look(1, 9, 0), 131);
         Check.due("the sixth", y.look(1, 0, 0), 260);
+        PageReceiver z = receiving(Sender.overlays(1, Sender.triplet(47, 4, 0), Sender.triplet(9, 15, 1),
+            Sender.triplet(40, 4, 0), Sender.triplet(9, 15, 2)));
+        Check.due("row 7", z.look(7, 9, 0), 129);
+        Check.due("row 0 again", z.look(0, 9, 0), 130);
     }
 
     private static void activeRowBeginsAnew() {

@@ -72,7 +72,7 @@ public final class Promise10HoldAndDoubleTest {
         }
     }
 
-    /** Page 100 with row 2 and one below it, all of letters x. */
+    /** Page 100 with a row, and one below it that is all x. */
     private static PageReceiver withRowBelow(int row, int... letters) {
         PageReceiver x = new PageReceiver(1);
         Sender.send(x, Sender.header(1, 0x00), Sender.row(1, row, letters));

@@ -46,10 +46,12 @@ public final class Promise10LookTest {
         }
         PageReceiver y = new PageReceiver(1);
         Sender.send(y, Sender.header(1, 0x00, 0, 0, 0, 0, "own head ..."));
-        Sender.send(y, Sender.links(1, 10, 15, 1, 14, 11, 0), Sender.header(2, 0x00, 0, 0, 1, 0, "rolls"));
+        Sender.send(y, Sender.links(1, 10, 15, 1, 14, 11, 0, 15, 15, 0), Sender.header(2, 0x00, 0, 0, 1, 0, "rolls"));
         Cells.letters("page's head", y, 0, 0, "P100    own head ...".chars().toArray());
         y.key(11);
         Cells.letters("without a page", y, 0, 0, "P1BE    rolls       ".chars().toArray());
+        Sender.keys(y, 1, 0, 0, 12);
+        Cells.letters("the last page of a magazine", y, 0, 0, 'P', '1', 'F', 'F', 32, 32, 32, 32);
         Sender.keys(y, 1, 0, 0, 10);
         Cells.letters("A to F", y, 0, 0, 'P', '8', 'F', 'A', 32, 32, 32, 32);
     }
@@ -93,8 +95,10 @@ public final class Promise10LookTest {
         PageReceiver x = new PageReceiver(1);
         Sender.send(x, Sender.header(1, 0x00), Sender.row(1, 1, 17, 8, 29, 11, 26, 30, 24, '5'));
         Sender.send(x, Sender.row(1, 2, '5', 1), Sender.end(1));
+        Cells.due("row 1", x, 1, 7, 32, 1, 1, 64 + 32 + 16);
         Cells.due("row 2", x, 2, 0, '5', 0);
-        Cells.due("its mark", x, 2, 1, 32, 0);
+        Cells.due("row 1", x, 1, 7, 32, 1, 1, 64 + 32 + 16);
+        Cells.due("a mark in row 2", x, 2, 1, 32, 0);
     }
 
     private static void colours() {
