@@ -145,6 +145,15 @@ final class Sender {
         send(x, header(magazine, page), end(magazine));
     }
 
+    /** An object that keeps page 100 alone, which has come with these packets behind its header. */
+    static PageReceiver receiving(int[]... packets) {
+        PageReceiver x = new PageReceiver(1);
+        send(x, header(1, 0x00));
+        send(x, packets);
+        send(x, end(1));
+        return x;
+    }
+
     /** An object that shows page 100 with letters in one row. */
     static PageReceiver showing(int row, int... letters) {
         PageReceiver x = new PageReceiver(2);
