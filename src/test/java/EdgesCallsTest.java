@@ -20,6 +20,7 @@ public final class EdgesCallsTest {
         resetAnswers();
         resetLeavesTheRest();
         keyAnswers();
+        digitsBegunAnewAreNothing();
         tickAnswers();
         tickLeavesTheRest();
         shownIsNone();
@@ -229,9 +230,8 @@ public final class EdgesCallsTest {
     private static void keyAnswers() {
         Check.sentence("Whether it did anything (a digit that was taken counts)");
         PageReceiver x = new PageReceiver(1);
-        boolean[] due = {false, true, true, true, true, true, true, true, true, false, false, false, false, false, false, true};
         for (int key = 0; key < 16; key++) {
-            Check.due("key " + key, x.key(key), due[key]);
+            Check.due("key " + key, x.key(key), key >= 1 && key <= 8 || key == 15);
             if (key > 0 && key < 9) {
                 x.key(10);
             }
@@ -242,6 +242,17 @@ public final class EdgesCallsTest {
         Check.due("no link 3", y.key(13), false);
         Check.due("link 0", y.key(10), true);
         Check.due("page 111 is not shown", y.key(10), false);
+    }
+
+    /** As the document is read here, a key that does no more than begin the digits anew did nothing. */
+    private static void digitsBegunAnewAreNothing() {
+        Check.sentence("Whether it did anything");
+        for (int key = 10; key <= 14; key++) {
+            PageReceiver x = new PageReceiver(1);
+            Sender.keys(x, 3, 3);
+            Check.due("key " + key, x.key(key), false);
+            Check.due("digits", x.viewer(1), 0);
+        }
     }
 
     private static void tickAnswers() {
@@ -329,8 +340,8 @@ public final class EdgesCallsTest {
     }
 
     private static void keptAnswers() {
-        Check.sentence("Of place k (from 0): its page's number (what = 0), subcode (1), set (2), how many were completed "
-            + "before this one was (3), link 0 to 3 (4 to 7, NONE for none)");
+        Check.sentence("Of place k (from 0): its page's number (what = 0), subcode (1), set (2), how many were "
+            + "completed before this one was (3), link 0 to 3 (4 to 7, NONE for none)");
         PageReceiver x = keepingTwo();
         int[] first = {0x666, 0, 0, 0, -1, -1, -1, -1};
         int[] second = {0, 15, 7, 1, 0, 0x7FF, -1, 0x222};

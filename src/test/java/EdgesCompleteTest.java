@@ -15,6 +15,7 @@ public final class EdgesCompleteTest {
         wantedPageIsThatOfNow();
         wantedPageInOnePlace();
         wantedPageThatIsNotKept();
+        wantedPageWhileItIsHeld();
         atMostSoMany();
         wantedAtFirst();
         shownWhenKept();
@@ -152,9 +153,18 @@ public final class EdgesCompleteTest {
     }
 
     private static void wantedPageThatIsNotKept() {
-        Check.sentence("or else in place of the kept page that was completed longest ago, not counting the wanted page");
+        Check.sentence("the kept page that was completed longest ago, not counting the wanted page");
         places("the wanted page comes last", keeping(2, 0x301, 0x302, 0x100), 0x100, 0x302);
         places("and stays", keeping(2, 0x301, 0x302, 0x100, 0x303, 0x304), 0x100, 0x304);
+    }
+
+    /** As the document is read here, what is held changes what is shown alone: the wanted page is wanted still. */
+    private static void wantedPageWhileItIsHeld() {
+        Check.sentence("not counting the wanted page if there are two places");
+        PageReceiver x = keeping(2, 0x100, 0x301);
+        x.key(14);
+        keep(x, 0x302, 0x303);
+        places("held", x, 0x100, 0x303);
     }
 
     private static void atMostSoMany() {

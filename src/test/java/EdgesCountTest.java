@@ -61,7 +61,8 @@ public final class EdgesCountTest {
         counts("21 bytes", x, 0, 0, 0, 0, 0, 0);
         x.reset();
         counts("thrown away", x, 0, 0, 0, 0, 0, 0);
-        Sender.send(x, Sender.header(1, 0x00), Sender.row(1, 1, "abc"), Sender.row(1, 30, "abc"), Sender.row(2, 1, "abc"));
+        Sender.send(x, Sender.header(1, 0x00), Sender.row(1, 1, "abc"), Sender.row(1, 30, "abc"));
+        Sender.send(x, Sender.row(2, 1, "abc"));
         counts("of all kinds", x, 4, 0, 0, 0, 0, 0);
         Sender.send(x, lostAt(Sender.header(1, 0x00), 0));
         counts("also when dropped", x, 5, 1, 0, 1, 0, 0);
@@ -100,7 +101,8 @@ public final class EdgesCountTest {
             good ^ 1 << 23)), 2, 0, 6, 0, 0, 0);
         counts("six lost", sent(header, Sender.overlays(1, good ^ 3, good ^ 5, good ^ 6, nothing ^ 3, nothing ^ 5,
             nothing ^ 6)), 2, 0, 0, 6, 0, 0);
-        counts("six good", sent(header, Sender.overlays(1, good, good, good, nothing, nothing, nothing)), 2, 0, 0, 0, 0, 0);
+        counts("six good", sent(header, Sender.overlays(1, good, good, good, nothing, nothing, nothing)),
+            2, 0, 0, 0, 0, 0);
     }
 
     private static void lostFirstByte() {

@@ -305,7 +305,8 @@ public final class EdgesHeaderTest {
         int[] first = Sender.header(1, 0x00, 0, 0, 0, 0, "abcdefghijkl");
         for (int at = 8; at < 22; at++) {
             PageReceiver x = new PageReceiver(1);
-            Sender.send(x, first, Sender.with(Sender.header(1, 0x00, 0, 0, 0, 0, "ABCDEFGHIJKL"), at, 0), Sender.end(1));
+            int[] second = Sender.with(Sender.header(1, 0x00, 0, 0, 0, 0, "ABCDEFGHIJKL"), at, 0);
+            Sender.send(x, first, second, Sender.end(1));
             for (int column = 8; column < 20; column++) {
                 int due = (column == at - 2 ? 'a' : 'A') + column - 8;
                 Check.due("b" + at + " wrong: letter " + column, x.look(0, column, 0), due);
@@ -343,8 +344,11 @@ public final class EdgesHeaderTest {
         PageReceiver x = new PageReceiver(1);
         Sender.send(x, allWrong(Sender.header(5, 0x10), 10));
         for (int column = 8; column < 20; column++) {
-            Check.due("letter " + column, x.look(0, column, 0), 32);
-            Check.due("sum " + column, x.look(0, column, 3), 0);
+            Cells.due("at first", x, 0, column, 32, 0);
+        }
+        Sender.send(x, allWrong(Sender.header(5, 0x10, 0, 0, 0, 0, "\u0017\u001e!"), 13));
+        for (int column = 11; column < 20; column++) {
+            Cells.due("a letter, no mark", x, 0, column, 32, 1);
         }
     }
 }

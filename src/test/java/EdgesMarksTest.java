@@ -1,6 +1,6 @@
 /** The section Terms at its edges: every mark, from three states, in its own cell and in the two behind it. */
 public final class EdgesMarksTest {
-    /** What a row begins with, and where the mark stands behind it; then comes 7, then the mark 27, which does nothing. */
+    /** What a row begins with; the mark stands behind it, then comes 7, then the mark 27, which does nothing. */
     private static final int[] NOTHING_ON = {};
     private static final int[] MOSAIC_ON = {23, '5'};
     /** Green on red, all states on, the block 5 held. */

@@ -1,3 +1,5 @@
+import java.math.BigInteger;
+
 /** The promises 10 and 11 at their edges: cells and points that there are and are not, and every point of a cell. */
 public final class EdgesPointTest {
     private static final int[] FAR = {-256, -100, 64, 100, 256, 65536, Integer.MIN_VALUE, Integer.MAX_VALUE};
@@ -179,14 +181,15 @@ public final class EdgesPointTest {
     }
 
     private static boolean letterBit(int letter, int u, int w) {
-        java.math.BigInteger product = java.math.BigInteger.valueOf(letter).multiply(java.math.BigInteger.valueOf(40503));
-        return product.xor(java.math.BigInteger.valueOf(letter).shiftLeft(7)).testBit(w * 4 + u);
+        BigInteger number = BigInteger.valueOf(letter);
+        return number.multiply(BigInteger.valueOf(40503)).xor(number.shiftLeft(7)).testBit(w * 4 + u);
     }
 
     private static void shape(String name, PageReceiver x, int row, int letter, int... lines) {
         for (int v = 0; v < 6; v++) {
             for (int u = 0; u < 4; u++) {
-                Check.due(name + " (" + u + ", " + v + ")", point(x, row, u, v), letterBit(letter, u, lines[v]) ? 3 : 4);
+                int due = letterBit(letter, u, lines[v]) ? 3 : 4;
+                Check.due(name + " (" + u + ", " + v + ")", point(x, row, u, v), due);
             }
         }
     }
@@ -212,7 +215,8 @@ public final class EdgesPointTest {
             }
         }
         PageReceiver y = new PageReceiver(1);
-        Sender.send(y, Sender.header(1, 0x00, 0, 0, 0, 7, ""), Sender.row(1, 2, 4, 29, 3, 27, 27, 27, 126), Sender.end(1));
+        Sender.send(y, Sender.header(1, 0x00, 0, 0, 0, 7, ""), Sender.row(1, 2, 4, 29, 3, 27, 27, 27, 126));
+        Sender.send(y, Sender.end(1));
         shape("a set's letter", y, 2, 636, 0, 1, 2, 3, 4, 5);
     }
 
@@ -237,8 +241,8 @@ public final class EdgesPointTest {
         picture("a mark", coloured(0, 25, 27, 27), 2, nothing);
         picture("an upper space", coloured(0, 25, 13, 32), 2, nothing);
         picture("a lower space", coloured(0, 25, 13, 32), 3, nothing);
-        picture("a space beside a lower half", Sender.receiving(Sender.row(1, 2, 4, 29, 3, 27, 27, 27, 'A', 13, 'A')), 3,
-            nothing);
+        PageReceiver x = Sender.receiving(Sender.row(1, 2, 4, 29, 3, 27, 27, 27, 'A', 13, 'A'));
+        picture("a space beside a lower half", x, 3, nothing);
     }
 
     private static void hiddenHasNone() {

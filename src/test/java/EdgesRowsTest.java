@@ -64,8 +64,8 @@ public final class EdgesRowsTest {
     private static void rowsOfItsMagazine() {
         Check.sentence("of the page that is coming in the magazine");
         PageReceiver x = new PageReceiver(2);
-        Sender.send(x, Sender.header(1, 0x00), Sender.header(2, 0x00), Sender.row(1, 1, "one"), Sender.row(2, 1, "two"));
-        Sender.send(x, Sender.row(3, 1, "three"), Sender.end(1), Sender.end(2));
+        Sender.send(x, Sender.header(1, 0x00), Sender.header(2, 0x00), Sender.row(1, 1, "one"));
+        Sender.send(x, Sender.row(2, 1, "two"), Sender.row(3, 1, "three"), Sender.end(1), Sender.end(2));
         Check.due("magazine 1", x.look(1, 0, 0), 'o');
         Sender.keys(x, 2, 0, 0);
         Check.due("magazine 2", x.look(1, 0, 0), 't');
@@ -113,8 +113,9 @@ public final class EdgesRowsTest {
     private static void activeRows() {
         Check.sentence("Address 40 to 47 and mode 4: the active row is address - 40.");
         for (int row = 0; row < 8; row++) {
-            for (int data : new int[] {0, 127}) {
-                PageReceiver x = withTriplets(Sender.triplet(40 + row, 4, data), Sender.triplet(19, 15, 1));
+            for (int before = 0; before < 8; before++) {
+                PageReceiver x = withTriplets(Sender.triplet(40 + before, 4, 0), Sender.triplet(40 + row, 4, 127),
+                    Sender.triplet(19, 15, 1));
                 for (int seen = 0; seen < 8; seen++) {
                     Check.due("active " + row + " in " + seen, x.look(seen, 19, 0), seen == row ? 129 : 32);
                 }
@@ -122,14 +123,19 @@ public final class EdgesRowsTest {
         }
     }
 
+    /** An overlay behind this triplet, which stands behind one that makes row 3 the active one. */
+    private static PageReceiver overlaidBehind(int triplet) {
+        return withTriplets(Sender.triplet(43, 4, 0), triplet, Sender.triplet(9, 15, 1));
+    }
+
     private static void noActiveRows() {
         Check.sentence("Address 40 to 47 and mode 4");
         for (int address : new int[] {20, 39, 48, 49, 56, 63}) {
-            PageReceiver x = withTriplets(Sender.triplet(43, 4, 0), Sender.triplet(address, 4, 0), Sender.triplet(9, 15, 1));
+            PageReceiver x = overlaidBehind(Sender.triplet(address, 4, 0));
             Check.due("address " + address, x.look(3, 9, 0), 129);
         }
         for (int mode = 0; mode < 32; mode++) {
-            PageReceiver x = withTriplets(Sender.triplet(43, 4, 0), Sender.triplet(45, mode, 0), Sender.triplet(9, 15, 1));
+            PageReceiver x = overlaidBehind(Sender.triplet(45, mode, 0));
             Check.due("mode " + mode, x.look(mode == 4 ? 5 : 3, 9, 0), 129);
             Check.due("mode " + mode + ", the other row", x.look(mode == 4 ? 3 : 5, 9, 0), 32);
         }

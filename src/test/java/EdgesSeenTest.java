@@ -1,4 +1,4 @@
-/** The section Terms at its edges: row 0, the states a row begins with, letters, blocks, overlays, sets, what is dark. */
+/** The section Terms at its edges: row 0, what a row begins with, letters, blocks, overlays, sets, what is hidden. */
 public final class EdgesSeenTest {
     private static final int[] SET_LETTERS = {35, 36, 64, 91, 92, 93, 94, 95, 96, 123, 124, 125, 126};
 
@@ -44,6 +44,9 @@ public final class EdgesSeenTest {
             PageReceiver x = new PageReceiver(1);
             Sender.keys(x, digit, 0, 0);
             wantedIs(x, 256 * (digit % 8), 'P', '0' + digit, '0', '0');
+            PageReceiver y = Sender.receiving(Sender.links(1, 15, 15, digit % 8 ^ 1));
+            y.key(10);
+            wantedIs(y, 256 * (digit % 8) + 255, 'P', '0' + digit, 'F', 'F');
         }
     }
 
@@ -223,8 +226,8 @@ public final class EdgesSeenTest {
     }
 
     private static void setLetters() {
-        Check.sentence("Otherwise, of a letter that is no block, one of 35, 36, 64, 91 to 96, 123 to 126 (index 0 to 12) "
-            + "is seen as 512 + 16 * set + index when the set of the page is not 0.");
+        Check.sentence("Otherwise, of a letter that is no block, one of 35, 36, 64, 91 to 96, 123 to 126 "
+            + "(index 0 to 12) is seen as 512 + 16 * set + index when the set of the page is not 0.");
         for (int g = 1; g < 8; g++) {
             for (int letter = 32; letter < 128; letter++) {
                 int due = letter;

@@ -64,7 +64,8 @@ public final class FaceTest {
         for (Class<?> inside : PageReceiver.class.getDeclaredClasses()) {
             int modifiers = inside.getModifiers();
             Check.due(inside + " is static", Modifier.isStatic(modifiers), true);
-            Check.due(inside + " is seen outside", Modifier.isPublic(modifiers) || Modifier.isProtected(modifiers), false);
+            Check.due(inside + " is public", Modifier.isPublic(modifiers), false);
+            Check.due(inside + " is protected", Modifier.isProtected(modifiers), false);
         }
     }
 }

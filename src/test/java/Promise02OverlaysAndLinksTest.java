@@ -105,7 +105,8 @@ public final class Promise02OverlaysAndLinksTest {
             Check.due(at + " lost: lost", x.count(3), 1);
             Check.due(at + " lost: dropped", x.count(1), 0);
         }
-        PageReceiver y = Sender.receiving(Sender.with(Sender.links(1, 5, 5, 5, 6, 6, 6, 7, 7, 7, 8, 8, 8), 2, Sender.lostNibble()));
+        int[] links = Sender.links(1, 5, 5, 5, 6, 6, 6, 7, 7, 7, 8, 8, 8);
+        PageReceiver y = Sender.receiving(Sender.with(links, 2, Sender.lostNibble()));
         Check.due("none stays none", y.kept(0, 4), -1);
     }
 
